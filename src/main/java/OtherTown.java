@@ -1581,6 +1581,7 @@ public final class OtherTown {
             }
             gather(t, side);
             openRows(t, s);
+            shutOutAlone(t);
             addUpRest(t, s);
             task = SEEK;
             soFar.set(0, 0, 0);
@@ -1641,6 +1642,19 @@ public final class OtherTown {
                     if (fitting && t.bedSide(b) != t.sideOf(who[i]) && (t.cold >> b & 1) == 0) {
                         open[i] |= 1 << b;
                     }
+                }
+            }
+        }
+
+        /** A child whom nobody could mind is left the church alone, so that the search counts with it. */
+        private void shutOutAlone(Towns t) {
+            int lying = 0;
+            for (int i = 0; i < size; i++) {
+                lying |= open[i] == 1 << CHURCH_PLACE ? 0 : 1 << who[i];
+            }
+            for (int i = 0; i < size; i++) {
+                if (t.kind[who[i]] == CHILD && (lying & t.elders[who[i]]) == 0) {
+                    open[i] = 1 << CHURCH_PLACE;
                 }
             }
         }

@@ -158,7 +158,7 @@ final class Texts {
 
     private static void spoilOnce(Random random, StringBuilder b) {
         int at = random.nextInt(Math.max(1, b.length()));
-        String[] lines = b.toString().split(";");
+        String[] lines = b.toString().split(";", -1);
         String line = lines[random.nextInt(lines.length)];
         String other = lines[random.nextInt(lines.length)];
         switch (random.nextInt(10)) {
@@ -179,8 +179,8 @@ final class Texts {
     }
 
     private static void swapWord(Random random, StringBuilder b, String word) {
-        String[] words = b.toString().split(" ");
-        words[random.nextInt(Math.max(1, words.length))] = word;
+        String[] words = b.toString().split(" ", -1);
+        words[random.nextInt(words.length)] = word;
         b.setLength(0);
         b.append(String.join(" ", words));
     }
