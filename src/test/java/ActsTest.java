@@ -74,6 +74,8 @@ public final class ActsTest {
         no(x, "nights 41", x.nights(41), 2);
         no(x, "seed -1", truth(x.seed(-1)), 2);
         no(x, "seed 65537", truth(x.seed(65537)), 2);
+        CHECK.due("seed", x.seed(0), true);
+        CHECK.due("seed", x.size(10), 0);
         CHECK.due("seed", x.seed(65536), true);
         CHECK.due("seed", x.size(10), 65536);
         CHECK.due("seed is no act", x.size(11), 3);

@@ -135,7 +135,7 @@ public final class ModelTest {
             if (random.nextInt(25) == 0) {
                 layWell(x, y);
             }
-            if (random.nextInt(150) == 0) {
+            if (random.nextInt(100) == 0) {
                 String text = Texts.good(random, big);
                 tell(x, y, random.nextInt(3) == 0 ? text : Texts.spoil(random, text));
             }
@@ -167,8 +167,8 @@ public final class ModelTest {
         for (int i = 0; i < 60 * times && t.check.isGood(); i++) {
             t.run(1, 200, 4);
         }
-        for (int i = 0; i < 12 * times && t.check.isGood(); i++) {
-            t.run(2, 120, 1);
+        for (int i = 0; i < 60 * times && t.check.isGood(); i++) {
+            t.run(2, 150, 1);
         }
         t.check.end();
     }

@@ -357,7 +357,74 @@ public final class NightsTest {
         CHECK.due("the SEED stays", x.size(10), 65536);
     }
 
+    /** One who is ill for long: by the draws alone, well again behind 40 nights, or behind 41. */
+    private static void farOff() {
+        String ill = "towns vow 1 month 0 wide 1 turn 0;house a left beds 1;house c right beds 1"
+                + ";person k plain of a walks 1 kin 1;ill 97";
+        OtherTown x = Check.town(ill);
+        x.seed(0);
+        x.night();
+        CHECK.due("leaksIn 40", x.leaksIn(1), 40);
+        CHECK.due("peaceIn 40", x.peaceIn(), 40);
+        CHECK.due("churchIn 40", x.churchIn(40), 39);
+        CHECK.due("knowsIn 39", x.knowsIn(0, 39), 1);
+        CHECK.due("knowsIn 40", x.knowsIn(0, 40), 3);
+        x.undo();
+        x.seed(186);
+        x.night();
+        CHECK.due("leaksIn 41", x.leaksIn(1), -2);
+        CHECK.due("peaceIn 41", x.peaceIn(), -2);
+        x.nights(40);
+        CHECK.due("leaksIn, then", x.leaksIn(1), 1);
+        CHECK.due("peaceIn, then", x.peaceIn(), 1);
+    }
+
+    /** Bed 0 is a bed as all others are: two of the right in a, of like kin. */
+    private static void firstBed() {
+        String text = "towns vow 1 month 0 wide 1 turn 0;house a left beds 2;house b left beds 1;house c right beds 1"
+                + ";house d right beds 1;person k plain of c walks 3 kin 1;person l plain of d walks 2 kin 1"
+                + ";wants k b 3;wants l a 4";
+        OtherTown x = lie(text, 0, 0, 1, 1);
+        CHECK.due("worth", x.worth(1), 4);
+        CHECK.due("who", x.who(0), 0);
+        CHECK.due("crossed", x.crossed(), 5);
+        x.night();
+        CHECK.due("they tell", x.knows(0), 1 | 4 | 8);
+        CHECK.due("they tell", x.knows(1), 1 | 4 | 8);
+        CHECK.due("together", x.together(0, 1), 1);
+        CHECK.due("no turn", x.turnsOf(0), 0);
+        CHECK.due("slept", x.slept(0), 1);
+        x.lays(1, 2);
+        CHECK.due("swap", x.swap(1), 1);
+    }
+
+    /** What other towns had told is gone. */
+    private static void toldAnew() {
+        String text = "towns vow 1 month 0 wide 1 turn 0;house a left beds 1;house c right beds 2"
+                + ";person k child of a walks 1 kin 1;person l plain of a walks 1 kin 1";
+        OtherTown x = Check.town(text + ";foes k l;wants k c 3;keeps a 1 1 1 1;shoe k c;cold c 0;ill 100");
+        CHECK.due("fits: nobody could mind the child that lay there", x.fits(0), 0);
+        CHECK.due("rows", x.rows(0), 3);
+        Check.tell(x, text.replace("l plain of a walks 1 kin 1", "l snorer of a walks 1 kin 2"));
+        x.lays(0, 1);
+        x.lays(1, 2);
+        CHECK.due("nobody of like kin", x.wrong(0), 6);
+        CHECK.due("rows", x.rows(0), 3);
+        CHECK.due("worth", x.worth(0), 0);
+        CHECK.due("foes", x.person(0, 5), 0);
+        CHECK.due("keeps", x.house(0, 3), 0);
+        CHECK.due("fits", x.fits(0), 3);
+        CHECK.due("ill", x.size(7), 0);
+        Check.tell(x, text.replace("l plain", "l light"));
+        x.lays(0, 1);
+        x.lays(1, 2);
+        CHECK.due("of like kin, no snorer now", x.firstWrong(), -2);
+    }
+
     public static void main(String[] args) {
+        farOff();
+        firstBed();
+        toldAnew();
         tonight();
         monthAndIll();
         bestRows();
