@@ -1152,7 +1152,7 @@ public final class OtherTown {
             return value;
         }
 
-        /** Behind a FAULT it answers 0, which is safe as an index and is never used. */
+        /** Behind a FAULT it answers 0, which is safe as an index; nothing is put there then. */
         private int toldHouse() {
             readName();
             return known(placeIn(houseNames, draft.houses));
