@@ -1,5 +1,3 @@
-import java.util.NoSuchElementException;
-
 /** Promises 46 to 56: acts, undoing, images, what is told. */
 public final class ActsTest {
     private static final Check CHECK = new Check();
@@ -8,14 +6,6 @@ public final class ActsTest {
     private static final String A = "towns vow 1 month 1 wide 1 turn 0;house a left beds 2;house c right beds 2"
             + ";person k plain of a walks 1 kin 0;person l plain of a walks 1 kin 0;person m plain of a walks 1 kin 0"
             + ";person n plain of c walks 1 kin 0;ill 30;wants l c 5";
-
-    private static int led(OtherTown x, int i) {
-        try {
-            return x.led(i);
-        } catch (NoSuchElementException e) {
-            return -3;
-        }
-    }
 
     private static void no(OtherTown x, String call, int got, int trouble) {
         CHECK.due(call, got, -1);
@@ -171,18 +161,18 @@ public final class ActsTest {
     private static void told() {
         OtherTown x = Check.town(A);
         for (int i = 0; i < 4; i++) {
-            CHECK.due("led " + i, led(x, i), i);
+            CHECK.due("led " + i, Check.led(x, i), i);
         }
-        CHECK.due("led 4", led(x, 4), -3);
-        CHECK.due("led -1", led(x, -1), -3);
-        CHECK.due("led least", led(x, Integer.MIN_VALUE), -3);
+        CHECK.due("led 4", Check.led(x, 4), -3);
+        CHECK.due("led -1", Check.led(x, -1), -3);
+        CHECK.due("led least", Check.led(x, Integer.MIN_VALUE), -3);
         x.lays(1, 2);
-        CHECK.due("led 0", led(x, 0), 0);
-        CHECK.due("led 1", led(x, 1), 2);
-        CHECK.due("led 2", led(x, 2), 3);
-        CHECK.due("led 3", led(x, 3), -3);
+        CHECK.due("led 0", Check.led(x, 0), 0);
+        CHECK.due("led 1", Check.led(x, 1), 2);
+        CHECK.due("led 2", Check.led(x, 2), 3);
+        CHECK.due("led 3", Check.led(x, 3), -3);
         x.bed(9);
-        led(x, 9);
+        Check.led(x, 9);
         CHECK.due("size 14", x.size(14), -1);
         CHECK.due("size -1", x.size(-1), -1);
         CHECK.due("fault", x.fault(), 0);

@@ -22,14 +22,6 @@ public final class NightsTest {
             + ";person m plain of a walks 1 kin 3";
     private static final String RW = R + ";wants k d 5;wants l d 9;wants m c 1";
 
-    private static OtherTown lie(String text, int... bed) {
-        OtherTown x = Check.town(text);
-        for (int i = 0; i < bed.length; i += 2) {
-            x.lays(bed[i], bed[i + 1]);
-        }
-        return x;
-    }
-
     private static void no(OtherTown x, String call, int got, int trouble) {
         CHECK.due(call, got, -1);
         CHECK.due("trouble of " + call, x.trouble(), trouble);
@@ -46,33 +38,33 @@ public final class NightsTest {
         CHECK.due("firstWrong", x.firstWrong(), -2);
         CHECK.due("worth", x.worth(0), 0);
         CHECK.due("trouble", x.trouble(), 0);
-        x = lie(N, K, 0);
+        x = Check.lie(N, K, 0);
         CHECK.due("his own side", x.wrong(K), 1);
         CHECK.due("his own house is no worth", x.worth(0), 0);
-        x = lie(N, NN, 4, K, 4);
+        x = Check.lie(N, NN, 4, K, 4);
         CHECK.due("who, the least", x.who(4), K);
         CHECK.due("somebody with a lesser number", x.wrong(NN), 2);
         CHECK.due("of the lesser number: a foe", x.wrong(K), 4);
         CHECK.due("firstWrong", x.firstWrong(), K);
         CHECK.due("worth", x.worth(0), 7);
         CHECK.due("worth of the other side", x.worth(1), 0);
-        x = lie(N, K, 4, NN, 6);
+        x = Check.lie(N, K, 4, NN, 6);
         CHECK.due("foes in one house", x.wrong(K), 4);
         CHECK.due("foes in one house", x.wrong(NN), 4);
-        x = lie(N, K, 4, NN, 7);
+        x = Check.lie(N, K, 4, NN, 7);
         CHECK.due("foes in two houses", x.wrong(K) + x.wrong(NN), 0);
-        x = lie(N, K, 4, L, 5);
+        x = Check.lie(N, K, 4, L, 5);
         CHECK.due("a snorer by a light one", x.wrong(K), 5);
         CHECK.due("a light one by a snorer", x.wrong(L), 5);
         CHECK.due("elsewhere", x.wrongIn(L, 8), 0);
         CHECK.due("his own side", x.wrongIn(L, 3), 1);
         CHECK.due("in his bed", x.wrongIn(L, 4), 2);
         CHECK.due("it was asked alone", x.bed(L), 5);
-        x = lie(N, L, 5, P, 6);
+        x = Check.lie(N, L, 5, P, 6);
         CHECK.due("one of the other side is a foe", x.wrong(L), 4);
         CHECK.due("but his own side comes first", x.wrong(P), 1);
         CHECK.due("firstWrong", x.firstWrong(), L);
-        x = lie(N, M, 4);
+        x = Check.lie(N, M, 4);
         CHECK.due("a child alone", x.wrong(M), 6);
         CHECK.due("firstWrong", x.firstWrong(), M);
         x.lays(O, 5);
@@ -84,10 +76,10 @@ public final class NightsTest {
         CHECK.due("one of like kin", x.wrong(O), 0);
         x.lays(NN, 4);
         CHECK.due("minded in one bed", x.wrong(M), 0);
-        x = lie(N, M, 4, NN, 8);
+        x = Check.lie(N, M, 4, NN, 8);
         CHECK.due("minded in another house", x.wrong(M), 6);
         CHECK.due("asked where he is", x.wrongIn(M, 7), 0);
-        x = lie(N, P, 0);
+        x = Check.lie(N, P, 0);
         CHECK.due("worth right", x.worth(1), 7);
         CHECK.due("worth left", x.worth(0), 0);
         no(x, "bed 7", x.bed(7), 1);
@@ -103,7 +95,7 @@ public final class NightsTest {
     }
 
     private static void monthAndIll() {
-        OtherTown x = lie(N, K, 4, P, 0);
+        OtherTown x = Check.lie(N, K, 4, P, 0);
         CHECK.due("never", x.ago(K, 4), -2);
         CHECK.due("night", x.night(), 1);
         CHECK.due("tonight stays", x.bed(K), 4);
@@ -123,7 +115,7 @@ public final class NightsTest {
         CHECK.due("ago", x.ago(K, 4), 3);
         CHECK.due("turns", x.turnsOf(K), 2);
         CHECK.due("turns", x.turnsOf(L), 3);
-        x = lie(N + ";ill 100", K, 4);
+        x = Check.lie(N + ";ill 100", K, 4);
         CHECK.due("well", x.person(K, 6), 0);
         x.night();
         CHECK.due("ill", x.person(K, 6), 1);
@@ -285,7 +277,7 @@ public final class NightsTest {
     }
 
     private static void swaps() {
-        OtherTown x = lie(RW, 0, 2, 1, 1);
+        OtherTown x = Check.lie(RW, 0, 2, 1, 1);
         CHECK.due("worth", x.worth(0), 5);
         CHECK.due("swap", x.swap(0), 1);
         CHECK.due("worth is as it was", x.worth(0), 5);
@@ -298,7 +290,7 @@ public final class NightsTest {
                 + ";person k plain of a walks 1 kin 1;person l plain of a walks 1 kin 2;person m plain of a walks 1 kin 3"
                 + ";person n plain of a walks 1 kin 3;person o snorer of d walks 1 kin 3;wants k d 2;wants m c 2"
                 + ";wants n c 2;wants l d 2";
-        x = lie(s, 0, 1, 1, 2, 2, 4, 3, 5);
+        x = Check.lie(s, 0, 1, 1, 2, 2, 4, 3, 5);
         CHECK.due("swap", x.swap(0), 2);
         x.lays(0, -2);
         CHECK.due("one in the church isn't swapped", x.swap(0), 102);
@@ -308,9 +300,9 @@ public final class NightsTest {
         CHECK.due("two in one bed", x.swap(0), -2);
         x.lays(3, 0);
         CHECK.due("one on his own side", x.swap(0), -2);
-        x = lie(s.replace("person k plain", "person k light"), 0, 1, 1, 2, 2, 4, 3, 5, 4, 3);
+        x = Check.lie(s.replace("person k plain", "person k light"), 0, 1, 1, 2, 2, 4, 3, 5, 4, 3);
         CHECK.due("a snorer of the other side lies in c: k is not right before, is behind it", x.swap(0), 2);
-        x = lie(s.replace("person m plain", "person m light"), 0, 1, 1, 2, 2, 4, 3, 5, 4, 3);
+        x = Check.lie(s.replace("person m plain", "person m light"), 0, 1, 1, 2, 2, 4, 3, 5, 4, 3);
         CHECK.due("m would lie by him: k and n, or l and n", x.swap(0), 3);
     }
 
@@ -384,7 +376,7 @@ public final class NightsTest {
         String text = "towns vow 1 month 0 wide 1 turn 0;house a left beds 2;house b left beds 1;house c right beds 1"
                 + ";house d right beds 1;person k plain of c walks 3 kin 1;person l plain of d walks 2 kin 1"
                 + ";wants k b 3;wants l a 4";
-        OtherTown x = lie(text, 0, 0, 1, 1);
+        OtherTown x = Check.lie(text, 0, 0, 1, 1);
         CHECK.due("worth", x.worth(1), 4);
         CHECK.due("who", x.who(0), 0);
         CHECK.due("crossed", x.crossed(), 5);

@@ -5,27 +5,6 @@ public final class TownsTest {
     private static final String H = T + ";house h left beds 1;house k right beds 2";
     private static final String P = H + ";person p plain of h walks 1 kin 0;person q light of k walks 1 kin 0";
 
-    /** A text with a ^ at the place of its fault. */
-    private static void faulty(int number, String marked) {
-        int place = marked.indexOf('^');
-        String text = marked.replace("^", "");
-        OtherTown x = new OtherTown();
-        CHECK.due("towns of " + marked, Check.tell(x, text), -1);
-        CHECK.due("trouble of " + marked, x.trouble(), 4);
-        CHECK.due("fault of " + marked, x.fault(), number);
-        CHECK.due("where of " + marked, x.where(), place);
-        CHECK.due("people behind " + marked, x.size(6), 0);
-        CHECK.due("tape behind " + marked, x.size(13), 0);
-    }
-
-    private static void good(int people, String text) {
-        OtherTown x = new OtherTown();
-        CHECK.due("towns of " + text, Check.tell(x, text), people);
-        CHECK.due("trouble of " + text, x.trouble(), 0);
-        CHECK.due("fault of " + text, x.fault(), 0);
-        CHECK.due("where of " + text, x.where(), -1);
-    }
-
     private static void refused(OtherTown x, String call, int got) {
         CHECK.due(call, got, -1);
         CHECK.due("trouble of " + call, x.trouble(), 1);
@@ -113,177 +92,169 @@ public final class TownsTest {
         CHECK.due("where", x.where(), 0);
         CHECK.due("feed leaves where", x.feed(0, 0, 0, 0, 0), 20);
         CHECK.due("where behind a feed", x.where(), 0);
-        CHECK.due("led leaves where", led(x), -3);
+        CHECK.due("led leaves where", Check.led(x, 0), -3);
         CHECK.due("where behind led", x.where(), 0);
         CHECK.due("towns by 2", x.towns(21), -1);
         CHECK.due("where by 2", x.where(), -1);
         CHECK.due("fault stays by 2", x.fault(), 1);
     }
 
-    private static int led(OtherTown x) {
-        try {
-            return x.led(0);
-        } catch (java.util.NoSuchElementException e) {
-            return -3;
-        }
-    }
-
     private static void form() {
-        faulty(1, "^");
-        faulty(1, "   ^");
-        faulty(1, "^;" + P);
-        faulty(1, "^7");
-        faulty(1, "^tows vow 1");
-        faulty(1, "^Towns");
-        faulty(1, "^townss vow 1");
-        faulty(1, "towns ^");
-        faulty(1, "towns  ^1");
-        faulty(1, "towns ^month 1");
-        faulty(1, "towns vow ^month");
-        faulty(1, "towns vow ^1000 month");
-        faulty(1, "towns vow 1 month 0 wide 1 turn ^;");
-        faulty(1, T + ";^");
-        faulty(1, T + "; ^;");
-        faulty(1, T + " ^house h left beds 1");
-        faulty(1, T + ";^x");
-        faulty(1, T + ";house ^");
-        faulty(1, T + ";house ^1");
-        faulty(1, T + ";house ^towns");
-        faulty(1, T + ";house ^cold left beds 1");
-        faulty(1, T + ";house ^abcdefghi left beds 1");
-        faulty(1, T + ";house h ^middle");
-        faulty(1, T + ";house h left ^bed 1");
-        faulty(1, T + ";house h left beds ^x");
-        faulty(1, T + ";house h left beds 1^.");
-        faulty(1, T + ";house h left beds 1^\t");
-        faulty(1, T + ";house h left beds 1^\u00e9");
-        faulty(1, T + ";house h left beds 1 ^2");
-        faulty(1, H + ";person ^foes plain");
-        faulty(1, H + ";person p ^of");
-        faulty(1, H + ";person p plain ^in h");
-        faulty(1, H + ";person p plain of ^house");
-        faulty(1, H + ";person p plain of ^3");
-        faulty(1, H + ";person p plain of h ^kin 1");
-        faulty(1, H + ";person p plain of h walks 1^");
-        faulty(1, H + ";person p plain of h walks 1 kin 0 ^0");
-        faulty(1, P + ";foes ^ill p");
-        faulty(1, P + ";foes p ^;");
-        faulty(1, P + ";foes p q ^p");
-        faulty(1, P + ";wants p k ^");
-        faulty(1, P + ";wants p k ^x");
-        faulty(1, P + ";keeps h 1 2 3 ^;");
-        faulty(1, P + ";keeps h 1 2 3 4 ^5");
-        faulty(1, P + ";ill ^x");
-        faulty(1, P + ";shoe p ^towns");
-        faulty(1, P + ";cold k ^");
-        faulty(1, P + ";^");
-        faulty(1, P + "   ^,  ");
+        CHECK.faulty(1, "^");
+        CHECK.faulty(1, "   ^");
+        CHECK.faulty(1, "^;" + P);
+        CHECK.faulty(1, "^7");
+        CHECK.faulty(1, "^tows vow 1");
+        CHECK.faulty(1, "^Towns");
+        CHECK.faulty(1, "^townss vow 1");
+        CHECK.faulty(1, "towns ^");
+        CHECK.faulty(1, "towns  ^1");
+        CHECK.faulty(1, "towns ^month 1");
+        CHECK.faulty(1, "towns vow ^month");
+        CHECK.faulty(1, "towns vow ^1000 month");
+        CHECK.faulty(1, "towns vow 1 month 0 wide 1 turn ^;");
+        CHECK.faulty(1, T + ";^");
+        CHECK.faulty(1, T + "; ^;");
+        CHECK.faulty(1, T + " ^house h left beds 1");
+        CHECK.faulty(1, T + ";^x");
+        CHECK.faulty(1, T + ";house ^");
+        CHECK.faulty(1, T + ";house ^1");
+        CHECK.faulty(1, T + ";house ^towns");
+        CHECK.faulty(1, T + ";house ^cold left beds 1");
+        CHECK.faulty(1, T + ";house ^abcdefghi left beds 1");
+        CHECK.faulty(1, T + ";house h ^middle");
+        CHECK.faulty(1, T + ";house h left ^bed 1");
+        CHECK.faulty(1, T + ";house h left beds ^x");
+        CHECK.faulty(1, T + ";house h left beds 1^.");
+        CHECK.faulty(1, T + ";house h left beds 1^\t");
+        CHECK.faulty(1, T + ";house h left beds 1^\u00e9");
+        CHECK.faulty(1, T + ";house h left beds 1 ^2");
+        CHECK.faulty(1, H + ";person ^foes plain");
+        CHECK.faulty(1, H + ";person p ^of");
+        CHECK.faulty(1, H + ";person p plain ^in h");
+        CHECK.faulty(1, H + ";person p plain of ^house");
+        CHECK.faulty(1, H + ";person p plain of ^3");
+        CHECK.faulty(1, H + ";person p plain of h ^kin 1");
+        CHECK.faulty(1, H + ";person p plain of h walks 1^");
+        CHECK.faulty(1, H + ";person p plain of h walks 1 kin 0 ^0");
+        CHECK.faulty(1, P + ";foes ^ill p");
+        CHECK.faulty(1, P + ";foes p ^;");
+        CHECK.faulty(1, P + ";foes p q ^p");
+        CHECK.faulty(1, P + ";wants p k ^");
+        CHECK.faulty(1, P + ";wants p k ^x");
+        CHECK.faulty(1, P + ";keeps h 1 2 3 ^;");
+        CHECK.faulty(1, P + ";keeps h 1 2 3 4 ^5");
+        CHECK.faulty(1, P + ";ill ^x");
+        CHECK.faulty(1, P + ";shoe p ^towns");
+        CHECK.faulty(1, P + ";cold k ^");
+        CHECK.faulty(1, P + ";^");
+        CHECK.faulty(1, P + "   ^,  ");
         // a second text may stand behind the n bytes: it is not read
         OtherTown x = new OtherTown();
         for (int[] f : Check.feeds(P + ".....")) {
             x.feed(f[0], f[1], f[2], f[3], f[4]);
         }
         CHECK.due("the first bytes alone", x.towns(P.length()), 2);
-        good(2, P);
-        good(2, "  " + P.replace(";", "  ;  ").replace(" ", "  ") + "  ");
-        good(2, P.replace("vow 1", "vow001").replace("beds 1", "beds1"));
-        good(1, T + ";house left left beds 1;person beds child of left walks 9 kin 9");
-        good(1, T + ";house abcdefgh left beds 1;person of plain of abcdefgh walks 1 kin 0");
+        CHECK.good(2, P);
+        CHECK.good(2, "  " + P.replace(";", "  ;  ").replace(" ", "  ") + "  ");
+        CHECK.good(2, P.replace("vow 1", "vow001").replace("beds 1", "beds1"));
+        CHECK.good(1, T + ";house left left beds 1;person beds child of left walks 9 kin 9");
+        CHECK.good(1, T + ";house abcdefgh left beds 1;person of plain of abcdefgh walks 1 kin 0");
     }
 
     private static void names() {
-        faulty(2, H + ";person p plain of ^z walks");
-        faulty(2, H + ";person p plain of ^p walks");
-        faulty(2, P + ";person r plain of ^q");
-        faulty(2, P + ";foes ^h p");
-        faulty(2, P + ";foes p ^k");
-        faulty(2, P + ";foes p ^left");
-        faulty(2, P + ";wants ^k k 1");
-        faulty(2, P + ";wants p ^q 1");
-        faulty(2, P + ";keeps ^p 1 1 1 1");
-        faulty(2, P + ";shoe ^h h");
-        faulty(2, P + ";shoe p ^p");
-        faulty(2, P + ";cold ^p 0");
-        faulty(3, T + ";house h left beds 1;house ^h");
-        faulty(3, H + ";person ^h plain");
-        faulty(3, P + ";person ^p plain of z");
-        faulty(3, P + ";house ^q left beds 1");
-        faulty(3, P + ";foes p ^p");
-        faulty(3, P + ";foes p q;foes p ^q");
-        faulty(3, P + ";foes p q;foes q ^p");
-        faulty(3, P + ";wants p k 1;wants p ^k 2");
-        faulty(3, P + ";keeps h 0 0 0 0;keeps ^h 1 1 1 1");
-        faulty(3, T + ";^towns vow 1");
-        faulty(3, P + ";^towns");
-        faulty(3, P + ";ill 0;^ill 0");
-        faulty(7, P + ";wants p ^h 3");
-        faulty(7, P + ";wants q ^k 3");
-        faulty(7, P + ";shoe p ^h");
-        good(2, P + ";shoe p k;shoe p k;cold k 1;cold k 1;keeps k 0 0 0 0;keeps h 99 99 99 99");
+        CHECK.faulty(2, H + ";person p plain of ^z walks");
+        CHECK.faulty(2, H + ";person p plain of ^p walks");
+        CHECK.faulty(2, P + ";person r plain of ^q");
+        CHECK.faulty(2, P + ";foes ^h p");
+        CHECK.faulty(2, P + ";foes p ^k");
+        CHECK.faulty(2, P + ";foes p ^left");
+        CHECK.faulty(2, P + ";wants ^k k 1");
+        CHECK.faulty(2, P + ";wants p ^q 1");
+        CHECK.faulty(2, P + ";keeps ^p 1 1 1 1");
+        CHECK.faulty(2, P + ";shoe ^h h");
+        CHECK.faulty(2, P + ";shoe p ^p");
+        CHECK.faulty(2, P + ";cold ^p 0");
+        CHECK.faulty(3, T + ";house h left beds 1;house ^h");
+        CHECK.faulty(3, H + ";person ^h plain");
+        CHECK.faulty(3, P + ";person ^p plain of z");
+        CHECK.faulty(3, P + ";house ^q left beds 1");
+        CHECK.faulty(3, P + ";foes p ^p");
+        CHECK.faulty(3, P + ";foes p q;foes p ^q");
+        CHECK.faulty(3, P + ";foes p q;foes q ^p");
+        CHECK.faulty(3, P + ";wants p k 1;wants p ^k 2");
+        CHECK.faulty(3, P + ";keeps h 0 0 0 0;keeps ^h 1 1 1 1");
+        CHECK.faulty(3, T + ";^towns vow 1");
+        CHECK.faulty(3, P + ";^towns");
+        CHECK.faulty(3, P + ";ill 0;^ill 0");
+        CHECK.faulty(7, P + ";wants p ^h 3");
+        CHECK.faulty(7, P + ";wants q ^k 3");
+        CHECK.faulty(7, P + ";shoe p ^h");
+        CHECK.good(2, P + ";shoe p k;shoe p k;cold k 1;cold k 1;keeps k 0 0 0 0;keeps h 99 99 99 99");
     }
 
     private static void bounds() {
-        faulty(4, "towns vow ^0");
-        faulty(4, "towns vow ^7");
-        faulty(4, "towns vow 6 month ^31");
-        faulty(4, "towns vow 6 month 30 wide ^0");
-        faulty(4, "towns vow 6 month 30 wide ^4");
-        faulty(4, "towns vow 6 month 30 wide 3 turn ^10");
-        faulty(4, T + ";house h left beds ^0");
-        faulty(4, T + ";house h left beds ^4");
-        faulty(4, T + ";house a left beds 3;house b left beds 3;house c left beds ^4");
-        faulty(4, H + ";person p plain of h walks ^0");
-        faulty(4, H + ";person p plain of h walks ^10");
-        faulty(4, H + ";person p plain of h walks 9 kin ^10");
-        faulty(4, P + ";wants p k ^0");
-        faulty(4, P + ";wants p k ^10");
-        faulty(4, P + ";keeps h ^100 1 1 1");
-        faulty(4, P + ";keeps h 1 1 1 ^100");
-        faulty(4, P + ";ill ^101");
-        faulty(4, P + ";cold h ^1");
-        faulty(4, P + ";cold k ^2");
-        good(2, P + ";wants p k 9;wants q h 1;keeps h 99 0 99 0;ill 100;cold k 1");
-        good(1, "towns vow 6 month 30 wide 3 turn 9;house h left beds 3;person p plain of h walks 9 kin 9");
+        CHECK.faulty(4, "towns vow ^0");
+        CHECK.faulty(4, "towns vow ^7");
+        CHECK.faulty(4, "towns vow 6 month ^31");
+        CHECK.faulty(4, "towns vow 6 month 30 wide ^0");
+        CHECK.faulty(4, "towns vow 6 month 30 wide ^4");
+        CHECK.faulty(4, "towns vow 6 month 30 wide 3 turn ^10");
+        CHECK.faulty(4, T + ";house h left beds ^0");
+        CHECK.faulty(4, T + ";house h left beds ^4");
+        CHECK.faulty(4, T + ";house a left beds 3;house b left beds 3;house c left beds ^4");
+        CHECK.faulty(4, H + ";person p plain of h walks ^0");
+        CHECK.faulty(4, H + ";person p plain of h walks ^10");
+        CHECK.faulty(4, H + ";person p plain of h walks 9 kin ^10");
+        CHECK.faulty(4, P + ";wants p k ^0");
+        CHECK.faulty(4, P + ";wants p k ^10");
+        CHECK.faulty(4, P + ";keeps h ^100 1 1 1");
+        CHECK.faulty(4, P + ";keeps h 1 1 1 ^100");
+        CHECK.faulty(4, P + ";ill ^101");
+        CHECK.faulty(4, P + ";cold h ^1");
+        CHECK.faulty(4, P + ";cold k ^2");
+        CHECK.good(2, P + ";wants p k 9;wants q h 1;keeps h 99 0 99 0;ill 100;cold k 1");
+        CHECK.good(1, "towns vow 6 month 30 wide 3 turn 9;house h left beds 3;person p plain of h walks 9 kin 9");
     }
 
     private static void rooms() {
-        faulty(5, T + ";house a left beds 3;house b left beds 3;house c left beds ^1");
-        faulty(5, T + ";house a right beds 3;house b right beds 2;house c right beds ^2");
+        CHECK.faulty(5, T + ";house a left beds 3;house b left beds 3;house c left beds ^1");
+        CHECK.faulty(5, T + ";house a right beds 3;house b right beds 2;house c right beds ^2");
         String six = T + ";house a left beds 1;house b left beds 1;house c left beds 1;house d right beds 1"
                 + ";house e right beds 1;house f right beds 1";
-        faulty(5, six + ";^house g left beds 1");
-        faulty(5, six + ";^house");
+        CHECK.faulty(5, six + ";^house g left beds 1");
+        CHECK.faulty(5, six + ";^house");
         StringBuilder five = new StringBuilder(H);
         for (int i = 0; i < 5; i++) {
             five.append(";person a").append("bcdef".charAt(i)).append(" plain of h walks 1 kin 0");
         }
-        good(5, five.toString());
-        faulty(5, five + ";person z plain of ^h walks 1 kin 0");
+        CHECK.good(5, five.toString());
+        CHECK.faulty(5, five + ";person z plain of ^h walks 1 kin 0");
         for (int i = 0; i < 5; i++) {
             five.append(";person b").append("bcdef".charAt(i)).append(" plain of k walks 1 kin 0");
         }
-        good(10, five.toString());
-        faulty(5, five + ";^person");
+        CHECK.good(10, five.toString());
+        CHECK.faulty(5, five + ";^person");
         String foes = five + ";foes ab ac;foes ab ad;foes ab ae;foes ab af;foes bb bc;foes bb ab";
-        good(10, foes);
-        faulty(5, foes + ";^foes bb bd");
+        CHECK.good(10, foes);
+        CHECK.faulty(5, foes + ";^foes bb bd");
         StringBuilder wants = new StringBuilder(six + ";person p plain of a walks 1 kin 0;person q plain of b walks 1 kin 0"
                 + ";person r plain of b walks 1 kin 0;person s plain of b walks 1 kin 0;person t plain of d walks 1 kin 0");
         for (int i = 0; i < 12; i++) {
             wants.append(";wants ").append("pqrs".charAt(i / 3)).append(' ').append("def".charAt(i % 3)).append(" 1");
         }
-        good(5, wants.toString());
-        faulty(5, wants + ";^wants t a 1");
+        CHECK.good(5, wants.toString());
+        CHECK.faulty(5, wants + ";^wants t a 1");
         String clues = P + ";cold k 0;cold k 1;cold h 0;shoe p k;shoe q h;shoe q h";
-        good(2, clues);
-        faulty(5, clues + ";^shoe p k");
-        faulty(5, clues + ";^cold k 0");
-        faulty(6, "^house h left beds 1");
-        faulty(6, "^person");
-        faulty(6, "^ill 0;" + T);
-        faulty(6, T + "^");
-        faulty(6, T + ";house h left beds 1 ^".replace(" ^", "^"));
-        faulty(6, T + ";ill 3   ^");
+        CHECK.good(2, clues);
+        CHECK.faulty(5, clues + ";^shoe p k");
+        CHECK.faulty(5, clues + ";^cold k 0");
+        CHECK.faulty(6, "^house h left beds 1");
+        CHECK.faulty(6, "^person");
+        CHECK.faulty(6, "^ill 0;" + T);
+        CHECK.faulty(6, T + "^");
+        CHECK.faulty(6, T + ";house h left beds 1 ^".replace(" ^", "^"));
+        CHECK.faulty(6, T + ";ill 3   ^");
     }
 
     private static void asTold() {
