@@ -7,12 +7,6 @@ public final class ActsTest {
             + ";person k plain of a walks 1 kin 0;person l plain of a walks 1 kin 0;person m plain of a walks 1 kin 0"
             + ";person n plain of c walks 1 kin 0;ill 30;wants l c 5";
 
-    private static void no(OtherTown x, String call, int got, int trouble) {
-        CHECK.due(call, got, -1);
-        CHECK.due("trouble of " + call, x.trouble(), trouble);
-        x.towns(-1); // another trouble in between
-    }
-
     private static int truth(boolean b) {
         return b ? 1 : -1;
     }
@@ -23,13 +17,13 @@ public final class ActsTest {
         CHECK.due("trouble", x.trouble(), 0);
         CHECK.due("bed", x.bed(0), 2);
         CHECK.due("acts", x.size(11), 1);
-        no(x, "he is there", truth(x.lays(0, 2)), 5);
-        no(x, "in the church already", truth(x.lays(1, -2)), 5);
-        no(x, "no such person", truth(x.lays(4, 2)), 1);
-        no(x, "no such person", truth(x.lays(-1, -2)), 1);
-        no(x, "no such bed", truth(x.lays(0, 4)), 1);
-        no(x, "no such bed", truth(x.lays(0, -1)), 1);
-        no(x, "no such bed", truth(x.lays(0, -3)), 1);
+        CHECK.no(x, "he is there", truth(x.lays(0, 2)), 5);
+        CHECK.no(x, "in the church already", truth(x.lays(1, -2)), 5);
+        CHECK.no(x, "no such person", truth(x.lays(4, 2)), 1);
+        CHECK.no(x, "no such person", truth(x.lays(-1, -2)), 1);
+        CHECK.no(x, "no such bed", truth(x.lays(0, 4)), 1);
+        CHECK.no(x, "no such bed", truth(x.lays(0, -1)), 1);
+        CHECK.no(x, "no such bed", truth(x.lays(0, -3)), 1);
         CHECK.due("acts refused are none", x.size(11), 1);
         CHECK.due("whatever is wrong", x.lays(1, 2), true);
         CHECK.due("into the church", x.lays(0, -2), true);
@@ -44,14 +38,14 @@ public final class ActsTest {
         CHECK.due("right row", x.bed(3), 0);
         CHECK.due("it is an act even if nothing changes", x.laysBest(1), 0);
         CHECK.due("acts", x.size(11), 6);
-        no(x, "laysBest 2", x.laysBest(2), 1);
-        no(x, "laysBest -1", x.laysBest(-1), 1);
+        CHECK.no(x, "laysBest 2", x.laysBest(2), 1);
+        CHECK.no(x, "laysBest -1", x.laysBest(-1), 1);
     }
 
     private static void sleeping() {
         OtherTown x = Check.town(A);
         x.lays(0, 0);
-        no(x, "something is wrong", x.night(), 5);
+        CHECK.no(x, "something is wrong", x.night(), 5);
         CHECK.due("nothing came of it", x.size(9) + x.size(10) + x.turnsOf(1), 0);
         x.lays(0, -2);
         CHECK.due("night", x.night(), 1);
@@ -60,10 +54,10 @@ public final class ActsTest {
         CHECK.due("k", x.person(0, 6), 0);
         CHECK.due("l", x.person(1, 6), 1);
         CHECK.due("n", x.person(3, 6), 0);
-        no(x, "nights 0", x.nights(0), 2);
-        no(x, "nights 41", x.nights(41), 2);
-        no(x, "seed -1", truth(x.seed(-1)), 2);
-        no(x, "seed 65537", truth(x.seed(65537)), 2);
+        CHECK.no(x, "nights 0", x.nights(0), 2);
+        CHECK.no(x, "nights 41", x.nights(41), 2);
+        CHECK.no(x, "seed -1", truth(x.seed(-1)), 2);
+        CHECK.no(x, "seed 65537", truth(x.seed(65537)), 2);
         CHECK.due("seed", x.seed(0), true);
         CHECK.due("seed", x.size(10), 0);
         CHECK.due("seed", x.seed(65536), true);
@@ -89,7 +83,7 @@ public final class ActsTest {
 
     private static void undoing() {
         OtherTown x = Check.town(A);
-        no(x, "nothing to undo", truth(x.undo()), 6);
+        CHECK.no(x, "nothing to undo", truth(x.undo()), 6);
         x.seed(7);
         x.lays(0, 2);
         x.seed(9);
@@ -128,7 +122,7 @@ public final class ActsTest {
 
     private static void imaging() {
         OtherTown x = Check.town(A);
-        no(x, "no image yet", truth(x.back(0)), 1);
+        CHECK.no(x, "no image yet", truth(x.back(0)), 1);
         CHECK.due("image 0", x.image(), 0);
         x.lays(0, 2);
         x.seed(3);
@@ -136,13 +130,13 @@ public final class ActsTest {
         x.nights(5);
         CHECK.due("an image is no act", x.size(11), 2);
         CHECK.due("image 2", x.image(), 2);
-        no(x, "a fourth one", x.image(), 3);
+        CHECK.no(x, "a fourth one", x.image(), 3);
         CHECK.due("images", x.size(12), 3);
         CHECK.due("back", x.back(1), true);
         CHECK.due("nights", x.size(9), 0);
         CHECK.due("seed", x.size(10), 3);
         CHECK.due("bed", x.bed(0), 2);
-        no(x, "nothing can be undone", truth(x.undo()), 6);
+        CHECK.no(x, "nothing can be undone", truth(x.undo()), 6);
         CHECK.due("all images stay", x.size(12), 3);
         CHECK.due("forward", x.back(2), true);
         CHECK.due("nights", x.size(9), 5);
@@ -154,8 +148,8 @@ public final class ActsTest {
         CHECK.due("seed", x.size(10), 0);
         x.lays(1, 3);
         CHECK.due("an image isn't touched by what comes", x.back(0) && x.bed(1) == -2, true);
-        no(x, "image 3", truth(x.back(3)), 1);
-        no(x, "image -1", truth(x.back(-1)), 1);
+        CHECK.no(x, "image 3", truth(x.back(3)), 1);
+        CHECK.no(x, "image -1", truth(x.back(-1)), 1);
     }
 
     private static void told() {

@@ -2,12 +2,6 @@
 public final class BridgeBargainCluesTest {
     private static final Check CHECK = new Check();
 
-    private static void no(OtherTown x, String call, int got, int trouble) {
-        CHECK.due(call, got, -1);
-        CHECK.due("trouble of " + call, x.trouble(), trouble);
-        x.towns(-1); // another trouble in between
-    }
-
     private static String bridgeTown(int wide, int turn, String... walkers) {
         StringBuilder b = new StringBuilder("towns vow 1 month 0 wide " + wide + " turn " + turn
                 + ";house a left beds 3;house b right beds 3");
@@ -68,10 +62,10 @@ public final class BridgeBargainCluesTest {
         // one who lies on his own side is in a bed too
         x.lays(2, 0);
         CHECK.due("in a bed", x.bridge(0, true), 11);
-        no(x, "bridge 3", x.bridge(3, false), 1);
-        no(x, "bridge -1", x.bridge(-1, true), 1);
-        no(x, "lastOver 3", x.lastOver(3), 1);
-        no(x, "lastOver -1", x.lastOver(-1), 1);
+        CHECK.no(x, "bridge 3", x.bridge(3, false), 1);
+        CHECK.no(x, "bridge -1", x.bridge(-1, true), 1);
+        CHECK.no(x, "lastOver 3", x.lastOver(3), 1);
+        CHECK.no(x, "lastOver -1", x.lastOver(-1), 1);
     }
 
     private static OtherTown keeping(String keeps) {
@@ -123,20 +117,20 @@ public final class BridgeBargainCluesTest {
         // three nights: 33, 30, 36, 36, 28; four: 42, 40, 47, 49, 38
         CHECK.due("bestRule, the first such", keeping("3 0 2 2").bestRule(1, 3), 2);
         CHECK.due("bestRule, the most", keeping("3 0 2 2").bestRule(1, 4), 3);
-        no(x, "rests 2", x.rests(2), 1);
-        no(x, "rests without keeps", x.rests(0), 6);
-        no(x, "holds -1", x.holds(-1, true), 1);
-        no(x, "holds without keeps", x.holds(0, false), 6);
-        no(x, "plays 2", x.plays(2, 0, 0, 1), 1);
-        no(x, "plays rule 5", x.plays(0, 5, 0, 0), 1);
-        no(x, "plays rule -1", x.plays(1, 0, -1, 101), 1);
-        no(x, "plays without keeps", x.plays(0, 0, 0, 0), 6);
-        no(x, "plays 0 nights", x.plays(1, 0, 0, 0), 2);
-        no(x, "plays 101 nights", x.plays(1, 0, 0, 101), 2);
-        no(x, "bestRule 2", x.bestRule(2, 0), 1);
-        no(x, "bestRule without keeps", x.bestRule(0, 0), 6);
-        no(x, "bestRule 0 nights", x.bestRule(1, 0), 2);
-        no(x, "bestRule 101 nights", x.bestRule(1, 101), 2);
+        CHECK.no(x, "rests 2", x.rests(2), 1);
+        CHECK.no(x, "rests without keeps", x.rests(0), 6);
+        CHECK.no(x, "holds -1", x.holds(-1, true), 1);
+        CHECK.no(x, "holds without keeps", x.holds(0, false), 6);
+        CHECK.no(x, "plays 2", x.plays(2, 0, 0, 1), 1);
+        CHECK.no(x, "plays rule 5", x.plays(0, 5, 0, 0), 1);
+        CHECK.no(x, "plays rule -1", x.plays(1, 0, -1, 101), 1);
+        CHECK.no(x, "plays without keeps", x.plays(0, 0, 0, 0), 6);
+        CHECK.no(x, "plays 0 nights", x.plays(1, 0, 0, 0), 2);
+        CHECK.no(x, "plays 101 nights", x.plays(1, 0, 0, 101), 2);
+        CHECK.no(x, "bestRule 2", x.bestRule(2, 0), 1);
+        CHECK.no(x, "bestRule without keeps", x.bestRule(0, 0), 6);
+        CHECK.no(x, "bestRule 0 nights", x.bestRule(1, 0), 2);
+        CHECK.no(x, "bestRule 101 nights", x.bestRule(1, 101), 2);
     }
 
     /** Beds: a 0, c 1 2, d 3. */
@@ -187,16 +181,16 @@ public final class BridgeBargainCluesTest {
         // the child with the other in c only: 2 ways; alone the other has 3 beds or the church
         CHECK.due("a child", Check.town(C.replace("k plain", "k child")).fits(0), 6);
         x = Check.town("towns vow 1 month 0 wide 1 turn 0;house a left beds 1;person k plain of a walks 1 kin 0");
-        no(x, "ask where there are no beds", x.ask(0), 6);
+        CHECK.no(x, "ask where there are no beds", x.ask(0), 6);
         CHECK.due("ask of the other", x.ask(1), 0);
-        no(x, "ask 2", x.ask(2), 1);
-        no(x, "fits 2", x.fits(2), 1);
-        no(x, "fits -1", x.fits(-1), 1);
-        no(x, "could 1", x.could(1), 1);
-        no(x, "surely -1", x.surely(-1), 1);
-        no(x, "fitsWith 1", x.fitsWith(1, -2), 1);
-        no(x, "fitsWith bed 1", x.fitsWith(0, 1), 1);
-        no(x, "fitsWith bed -1", x.fitsWith(0, -1), 1);
+        CHECK.no(x, "ask 2", x.ask(2), 1);
+        CHECK.no(x, "fits 2", x.fits(2), 1);
+        CHECK.no(x, "fits -1", x.fits(-1), 1);
+        CHECK.no(x, "could 1", x.could(1), 1);
+        CHECK.no(x, "surely -1", x.surely(-1), 1);
+        CHECK.no(x, "fitsWith 1", x.fitsWith(1, -2), 1);
+        CHECK.no(x, "fitsWith bed 1", x.fitsWith(0, 1), 1);
+        CHECK.no(x, "fitsWith bed -1", x.fitsWith(0, -1), 1);
     }
 
     public static void main(String[] args) {

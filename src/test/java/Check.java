@@ -56,6 +56,17 @@ final class Check {
         due("trouble of " + what, x.trouble(), trouble);
     }
 
+    /** What a call answered that must have been refused; then another TROUBLE, so that the next can't rest on it. */
+    void no(OtherTown x, String call, int got, int trouble) {
+        due(call, got, -1);
+        due("trouble of " + call, x.trouble(), trouble);
+        if (trouble == 1) {
+            x.towns(-1);
+        } else {
+            x.bed(-1);
+        }
+    }
+
     void refuses(OtherTown x, int trouble, String what, BooleanSupplier call) {
         refused(x, trouble, what, () -> call.getAsBoolean() ? 1 : -1);
     }

@@ -22,12 +22,6 @@ public final class NightsTest {
             + ";person m plain of a walks 1 kin 3";
     private static final String RW = R + ";wants k d 5;wants l d 9;wants m c 1";
 
-    private static void no(OtherTown x, String call, int got, int trouble) {
-        CHECK.due(call, got, -1);
-        CHECK.due("trouble of " + call, x.trouble(), trouble);
-        x.size(0);
-    }
-
     private static void tonight() {
         OtherTown x = Check.town(N);
         for (int p = 0; p < 7; p++) {
@@ -82,16 +76,16 @@ public final class NightsTest {
         x = Check.lie(N, P, 0);
         CHECK.due("worth right", x.worth(1), 7);
         CHECK.due("worth left", x.worth(0), 0);
-        no(x, "bed 7", x.bed(7), 1);
-        no(x, "bed -1", x.bed(-1), 1);
-        no(x, "who 9", x.who(9), 1);
-        no(x, "who -2", x.who(-2), 1);
-        no(x, "wrong 7", x.wrong(7), 1);
-        no(x, "wrongIn 7", x.wrongIn(7, 0), 1);
-        no(x, "wrongIn bed 9", x.wrongIn(0, 9), 1);
-        no(x, "wrongIn the church", x.wrongIn(0, -2), 1);
-        no(x, "worth 2", x.worth(2), 1);
-        no(x, "worth -1", x.worth(-1), 1);
+        CHECK.no(x, "bed 7", x.bed(7), 1);
+        CHECK.no(x, "bed -1", x.bed(-1), 1);
+        CHECK.no(x, "who 9", x.who(9), 1);
+        CHECK.no(x, "who -2", x.who(-2), 1);
+        CHECK.no(x, "wrong 7", x.wrong(7), 1);
+        CHECK.no(x, "wrongIn 7", x.wrongIn(7, 0), 1);
+        CHECK.no(x, "wrongIn bed 9", x.wrongIn(0, 9), 1);
+        CHECK.no(x, "wrongIn the church", x.wrongIn(0, -2), 1);
+        CHECK.no(x, "worth 2", x.worth(2), 1);
+        CHECK.no(x, "worth -1", x.worth(-1), 1);
     }
 
     private static void monthAndIll() {
@@ -181,11 +175,11 @@ public final class NightsTest {
             CHECK.due("best with children " + p, x.best(p), row[p]);
         }
         CHECK.due("worth with children", x.bestWorth(0), 5);
-        no(x, "rows 2", x.rows(2), 1);
-        no(x, "best 7", x.best(7), 1);
-        no(x, "best -1", x.best(-1), 1);
-        no(x, "bestChurch -1", x.bestChurch(-1), 1);
-        no(x, "bestWorth 2", x.bestWorth(2), 1);
+        CHECK.no(x, "rows 2", x.rows(2), 1);
+        CHECK.no(x, "best 7", x.best(7), 1);
+        CHECK.no(x, "best -1", x.best(-1), 1);
+        CHECK.no(x, "bestChurch -1", x.bestChurch(-1), 1);
+        CHECK.no(x, "bestWorth 2", x.bestWorth(2), 1);
     }
 
     private static void known() {
@@ -229,18 +223,18 @@ public final class NightsTest {
         CHECK.due("not in one house", x.knows(0), 1 | 2 | 4);
         CHECK.due("by himself", x.knows(1), 1 | 2 | 4 | 8);
         CHECK.due("fair", x.fair(0), 2);
-        no(x, "together alike", x.together(1, 1), 1);
-        no(x, "together 5", x.together(1, 5), 1);
-        no(x, "turnsOf 5", x.turnsOf(5), 1);
-        no(x, "ago bed 5", x.ago(0, 5), 1);
-        no(x, "ago the church", x.ago(0, -2), 1);
-        no(x, "ago of 5", x.ago(5, 0), 1);
-        no(x, "slept 5", x.slept(5), 1);
-        no(x, "knows -1", x.knows(-1), 1);
-        no(x, "leaked 4", x.leaked(4), 1);
-        no(x, "guests 4", x.guests(4), 1);
-        no(x, "fair 2", x.fair(2), 1);
-        no(x, "swap 2", x.swap(2), 1);
+        CHECK.no(x, "together alike", x.together(1, 1), 1);
+        CHECK.no(x, "together 5", x.together(1, 5), 1);
+        CHECK.no(x, "turnsOf 5", x.turnsOf(5), 1);
+        CHECK.no(x, "ago bed 5", x.ago(0, 5), 1);
+        CHECK.no(x, "ago the church", x.ago(0, -2), 1);
+        CHECK.no(x, "ago of 5", x.ago(5, 0), 1);
+        CHECK.no(x, "slept 5", x.slept(5), 1);
+        CHECK.no(x, "knows -1", x.knows(-1), 1);
+        CHECK.no(x, "leaked 4", x.leaked(4), 1);
+        CHECK.no(x, "guests 4", x.guests(4), 1);
+        CHECK.no(x, "fair 2", x.fair(2), 1);
+        CHECK.no(x, "swap 2", x.swap(2), 1);
         CHECK.due("fair without people", Check.town(R).fair(1), 0);
         // unlike kin in one house tell nothing
         x = Check.town(R.replace("house c right beds 1", "house c right beds 2").replace("house a left beds 1",
@@ -318,11 +312,11 @@ public final class NightsTest {
         CHECK.due("leaksIn", x.leaksIn(1), 1);
         CHECK.due("nobody of the right", x.leaksIn(0), -2);
         CHECK.due("nothing has changed", x.size(9) + x.size(10) + x.size(11), 0);
-        no(x, "churchIn 41", x.churchIn(41), 2);
-        no(x, "churchIn -1", x.churchIn(-1), 2);
-        no(x, "knowsIn 41", x.knowsIn(0, 41), 2);
-        no(x, "knowsIn of 3", x.knowsIn(3, 41), 1);
-        no(x, "leaksIn 3", x.leaksIn(3), 1);
+        CHECK.no(x, "churchIn 41", x.churchIn(41), 2);
+        CHECK.no(x, "churchIn -1", x.churchIn(-1), 2);
+        CHECK.no(x, "knowsIn 41", x.knowsIn(0, 41), 2);
+        CHECK.no(x, "knowsIn of 3", x.knowsIn(3, 41), 1);
+        CHECK.no(x, "leaksIn 3", x.leaksIn(3), 1);
         x.nights(1);
         CHECK.due("peaceIn from now on", x.peaceIn(), 1);
         CHECK.due("leaksIn from now on", x.leaksIn(1), 0);

@@ -1,75 +1,9 @@
-/** Promises 1 to 9: a new object, THE TAPE, the text and its faults, what is as told. */
+/** Promises 2 to 9: THE TAPE, the text and its faults, what is as told. */
 public final class TownsTest {
     private static final Check CHECK = new Check();
     private static final String T = "towns vow 1 month 0 wide 1 turn 0";
     private static final String H = T + ";house h left beds 1;house k right beds 2";
     private static final String P = H + ";person p plain of h walks 1 kin 0;person q light of k walks 1 kin 0";
-
-    private static void refused(OtherTown x, String call, int got) {
-        CHECK.due(call, got, -1);
-        CHECK.due("trouble of " + call, x.trouble(), 1);
-        x.towns(-1); // another trouble in between
-    }
-
-    private static void newObject() {
-        OtherTown x = new OtherTown();
-        CHECK.due("trouble", x.trouble(), 0);
-        CHECK.due("fault", x.fault(), 0);
-        CHECK.due("where", x.where(), -1);
-        for (int what = 0; what <= 13; what++) {
-            CHECK.due("size " + what, x.size(what), 0);
-        }
-        refused(x, "house", x.house(0, 0));
-        refused(x, "person", x.person(0, 0));
-        refused(x, "houseOf", x.houseOf(0));
-        refused(x, "wants", x.wants(0, 0));
-        refused(x, "bed", x.bed(0));
-        refused(x, "who", x.who(0));
-        refused(x, "wrong", x.wrong(0));
-        refused(x, "firstWrong", x.firstWrong());
-        refused(x, "wrongIn", x.wrongIn(0, 0));
-        refused(x, "worth", x.worth(0));
-        refused(x, "rows", x.rows(0));
-        refused(x, "best", x.best(0));
-        refused(x, "bestChurch", x.bestChurch(0));
-        refused(x, "bestWorth", x.bestWorth(1));
-        refused(x, "turnsOf", x.turnsOf(0));
-        refused(x, "ago", x.ago(0, 0));
-        refused(x, "slept", x.slept(0));
-        refused(x, "knows", x.knows(0));
-        refused(x, "leaked", x.leaked(0));
-        refused(x, "peace", x.peace());
-        refused(x, "guests", x.guests(0));
-        refused(x, "together", x.together(0, 1));
-        refused(x, "fair", x.fair(0));
-        refused(x, "swap", x.swap(1));
-        refused(x, "peaceIn", x.peaceIn());
-        refused(x, "churchIn", x.churchIn(0));
-        refused(x, "churchIn far", x.churchIn(41));
-        refused(x, "knowsIn", x.knowsIn(0, 0));
-        refused(x, "leaksIn", x.leaksIn(0));
-        refused(x, "crossed", x.crossed());
-        refused(x, "bridge", x.bridge(0, true));
-        refused(x, "lastOver", x.lastOver(0));
-        refused(x, "rests", x.rests(0));
-        refused(x, "holds", x.holds(0, true));
-        refused(x, "plays", x.plays(0, 0, 0, 1));
-        refused(x, "bestRule", x.bestRule(0, 1));
-        refused(x, "fits", x.fits(0));
-        refused(x, "could", x.could(0));
-        refused(x, "surely", x.surely(0));
-        refused(x, "fitsWith", x.fitsWith(0, -2));
-        refused(x, "ask", x.ask(0));
-        refused(x, "lays", x.lays(0, -2) ? 1 : -1);
-        refused(x, "laysBest", x.laysBest(0));
-        refused(x, "night", x.night());
-        refused(x, "nights", x.nights(0));
-        refused(x, "seed", x.seed(-1) ? 1 : -1);
-        refused(x, "image", x.image());
-        refused(x, "back", x.back(0) ? 1 : -1);
-        CHECK.due("undo", x.undo(), false);
-        CHECK.due("trouble of undo", x.trouble(), 6);
-    }
 
     private static void tape() {
         OtherTown x = new OtherTown();
@@ -289,18 +223,18 @@ public final class TownsTest {
             }
         }
         CHECK.due("trouble", x.trouble(), 0);
-        refused(x, "house 3", x.house(3, 0));
-        refused(x, "house -1", x.house(-1, 0));
-        refused(x, "house what 4", x.house(0, 4));
-        refused(x, "house what -1", x.house(0, -1));
-        refused(x, "person 4", x.person(4, 0));
-        refused(x, "person what 7", x.person(0, 7));
-        refused(x, "person what -1", x.person(0, -1));
-        refused(x, "houseOf 6", x.houseOf(6));
-        refused(x, "houseOf -2", x.houseOf(-2));
-        refused(x, "wants 4", x.wants(4, 0));
-        refused(x, "wants of house 3", x.wants(0, 3));
-        refused(x, "wants most", x.wants(Integer.MAX_VALUE, Integer.MIN_VALUE));
+        CHECK.no(x, "house 3", x.house(3, 0), 1);
+        CHECK.no(x, "house -1", x.house(-1, 0), 1);
+        CHECK.no(x, "house what 4", x.house(0, 4), 1);
+        CHECK.no(x, "house what -1", x.house(0, -1), 1);
+        CHECK.no(x, "person 4", x.person(4, 0), 1);
+        CHECK.no(x, "person what 7", x.person(0, 7), 1);
+        CHECK.no(x, "person what -1", x.person(0, -1), 1);
+        CHECK.no(x, "houseOf 6", x.houseOf(6), 1);
+        CHECK.no(x, "houseOf -2", x.houseOf(-2), 1);
+        CHECK.no(x, "wants 4", x.wants(4, 0), 1);
+        CHECK.no(x, "wants of house 3", x.wants(0, 3), 1);
+        CHECK.no(x, "wants most", x.wants(Integer.MAX_VALUE, Integer.MIN_VALUE), 1);
     }
 
     /** A fault leaves the towns, their acts and images; new towns bring all back to the start. */
@@ -335,7 +269,6 @@ public final class TownsTest {
     }
 
     public static void main(String[] args) {
-        newObject();
         tape();
         form();
         names();
