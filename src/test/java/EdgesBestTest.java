@@ -96,6 +96,43 @@ public final class EdgesBestTest {
         c.granted(y, 2, "best again", () -> y.best(1));
     }
 
+    static void promise16_foesWhoAreNotTheFirst(Check c) {
+        OtherTown x = Check.town(left(3, 2, 0) + ";foes l m");
+        // none 1, one 3 * 2, two of them 2 pairs in 2 ways
+        c.granted(x, 1 + 6 + 4, "foes l m", () -> x.rows(0));
+        OtherTown y = Check.town(left(3, 2, 0).replace("l plain", "l snorer").replace("m plain", "m light"));
+        c.granted(y, 1 + 6 + 4, "a snorer and a light one", () -> y.rows(0));
+    }
+
+    static void promise16_aChildAmongFive(Check c) {
+        // one house of two beds: of the four others none 1, one 4 * 2, two 6 * 2; the child by one of them 4 * 2
+        String five = T + ";house a left beds 1;house c right beds 2";
+        for (int at = 0; at < 5; at++) {
+            String[] kinds = {"plain", "plain", "plain", "plain", "plain"};
+            kinds[at] = "child";
+            OtherTown x = Check.town(five + people("a", kinds));
+            c.granted(x, 1 + 8 + 12 + 8, "child " + at, () -> x.rows(0));
+        }
+    }
+
+    static void promise16_aMinderNeedNotBeTheLast(Check c) {
+        String text = T + ";house a left beds 1;house c right beds 2;person k child of a walks 1 kin 1"
+                + ";person l plain of a walks 1 kin 1;person m plain of a walks 1 kin 2";
+        // without the child 1 + 4 + 2, with l and the child 2
+        OtherTown x = Check.town(text);
+        c.granted(x, 7 + 2, "l minds", () -> x.rows(0));
+        c.granted(x, 1, "best", () -> x.best(0));
+    }
+
+    static void promise16_onlyAChildMustBeMinded(Check c) {
+        OtherTown x = Check.town(T + ";house a left beds 1;house c right beds 1" + people("a", "light"));
+        c.granted(x, 2, "a light one alone", () -> x.rows(0));
+        c.granted(x, 1, "his best", () -> x.best(0));
+        OtherTown y = Check.town(T + ";house a left beds 1;house c right beds 1" + people("a", "child"));
+        c.granted(y, 1, "a child alone", () -> y.rows(0));
+        c.granted(y, -2, "its best", () -> y.best(0));
+    }
+
     static void promise16_thereAreTwoSides(Check c) {
         OtherTown x = Check.town(left(1, 1, 0));
         for (int side : NO_SIDES) {
@@ -143,6 +180,10 @@ public final class EdgesBestTest {
         rowDue(c, Check.town(left(3, 3, 3)), 1, 2, 3);
         OtherTown x = Check.town(left(2, 1, 1) + ";wants k c 2;wants k d 2");
         rowDue(c, x, 1, 2);
+    }
+
+    static void promise17_isOfHisOwnSide(Check c) {
+        rowDue(c, Check.town(Edges.FULL), 6, 7, 8, 9, 10, 0, 1, 2, 3, 4);
     }
 
     static void promise17_theChurchBehindAllBeds(Check c) {

@@ -130,6 +130,9 @@ public final class EdgesCluesTest {
         c.granted(church, -2, "the church in all", () -> church.surely(0));
         OtherTown two = Check.town(C);
         c.granted(two, -2, "two houses", () -> two.surely(0));
+        OtherTown sure = Check.town(C + ";shoe k c;cold c 0");
+        c.granted(sure, 1, "k in all", () -> sure.surely(0));
+        c.granted(sure, -2, "l in d, or the church", () -> sure.surely(1));
     }
 
     static void promise43_isTheHouseWhateverTheBed(Check c) {
@@ -143,6 +146,16 @@ public final class EdgesCluesTest {
         OtherTown x = Check.town("towns vow 1 month 0 wide 1 turn 0;house a left beds 1;house c right beds 1"
                 + ";person k plain of c walks 1 kin 0;shoe k a");
         c.granted(x, 0, "a", () -> x.surely(0));
+    }
+
+    static void promise43_isOfHisOwnSide(Check c) {
+        OtherTown x = Check.town(Edges.FULL + ";shoe k f;shoe t b");
+        c.granted(x, 5, "k of the left", () -> x.surely(0));
+        c.granted(x, -2, "l of the left", () -> x.surely(1));
+        c.granted(x, 1, "t of the right", () -> x.surely(9));
+        c.granted(x, -2, "s of the right", () -> x.surely(8));
+        c.granted(x, 1 + 2 + 4, "s could", () -> x.could(8));
+        c.granted(x, 2, "t could", () -> x.could(9));
     }
 
     static void promise43_isMinus2WithoutFits(Check c) {

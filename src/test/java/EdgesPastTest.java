@@ -179,6 +179,17 @@ public final class EdgesPastTest {
         c.granted(x, 1 + 4, "m in the church", () -> x.knows(2));
     }
 
+    static void promise23_kinWhoAreNotTheFirstTell(Check c) {
+        // l and m lie in c, alike in kin but unlike k; n of their kin is in the church
+        String text = W.replace("of b walks 1 kin 1", "of b walks 1 kin 2").replace("of c walks 1 kin 3", "of c walks 1 kin 2");
+        OtherTown x = Check.lie(text, 1, 3, 2, 4);
+        x.night();
+        c.granted(x, 1 + 2 + 4, "l", () -> x.knows(1));
+        c.granted(x, 1 + 2 + 4, "m", () -> x.knows(2));
+        c.granted(x, 1 + 2 + 4, "k, at home with m", () -> x.knows(0));
+        c.granted(x, 4, "n", () -> x.knows(3));
+    }
+
     static void promise23_kinInTheFirstBedTellToo(Check c) {
         OtherTown x = Check.lie(Edges.FULL, 5, 0, 6, 1);
         x.night();
@@ -288,6 +299,17 @@ public final class EdgesPastTest {
         c.granted(x, 1, "all", x::peace);
     }
 
+    static void promise25_eachSideHasItsOwnHousesToSleepIn(Check c) {
+        // one house on the left, three on the right: k needs two, m the only one
+        OtherTown x = Check.town(ONE + ";person m plain of c walks 1 kin 1");
+        sleepIn(x, 1, 0);
+        c.granted(x, 0, "k has none", x::peace);
+        sleepIn(x, 0, 1);
+        c.granted(x, 0, "k has one", x::peace);
+        sleepIn(x, 0, 3);
+        c.granted(x, 1, "k has two, m has all", x::peace);
+    }
+
     static void promise25_isRefusedWithoutTowns(Check c) {
         OtherTown x = new OtherTown();
         c.refused(x, 1, "peace", x::peace);
@@ -391,6 +413,18 @@ public final class EdgesPastTest {
         c.granted(x, 30, "all in the church", () -> x.fair(0));
     }
 
+    static void promise28_isOfTheSideAlone(Check c) {
+        OtherTown x = Check.lie(Edges.FULL, 9, 0);
+        x.night();
+        c.granted(x, 1, "right: the last has none", () -> x.fair(1));
+        c.granted(x, 0, "left: all have one", () -> x.fair(0));
+        x.lays(9, 1);
+        x.lays(5, 0);
+        x.night();
+        c.granted(x, 2, "right: two and none", () -> x.fair(1));
+        c.granted(x, 0, "left: all have two", () -> x.fair(0));
+    }
+
     static void promise28_withoutPeople0(Check c) {
         OtherTown x = Check.town(ONE);
         x.night();
@@ -476,6 +510,14 @@ public final class EdgesPastTest {
         String before = Check.all(x);
         x.swap(0);
         c.due("all", Check.all(x), before);
+        OtherTown y = Check.lie(W + ";wants l d 1;wants m d 1", 0, 5, 1, 3, 2, 4);
+        String all = Check.all(y);
+        c.granted(y, 1, "k and l, or k and m", () -> y.swap(0));
+        c.due("all", Check.all(y), all);
+        OtherTown z = Check.lie(W + ";wants m c 1", 1, 3, 2, 5);
+        String rest = Check.all(z);
+        c.granted(z, 102, "l and m", () -> z.swap(0));
+        c.due("all", Check.all(z), rest);
     }
 
     static void promise29_thereAreTwoSides(Check c) {

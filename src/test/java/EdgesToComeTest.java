@@ -28,6 +28,16 @@ public final class EdgesToComeTest {
         c.granted(alone, 0, "no house to sleep in", alone::peaceIn);
     }
 
+    static void promise30_isTheFirstSuchHoweverFarWasAsked(Check c) {
+        OtherTown x = Check.lie(ONE, 0, 1);
+        x.night();
+        x.churchIn(40);
+        c.granted(x, 0, "now, though forty were lived through", x::peaceIn);
+        OtherTown y = Check.town(ONE);
+        y.knowsIn(0, 40);
+        c.granted(y, 1, "one, though forty were lived through", y::peaceIn);
+    }
+
     static void promise30_40IsTheLast(Check c) {
         OtherTown forty = ill(0);
         c.granted(forty, 40, "behind 40", forty::peaceIn);
@@ -130,6 +140,14 @@ public final class EdgesToComeTest {
         x.night();
         c.granted(x, 5, "now", () -> x.knowsIn(0, 0));
         c.granted(x, 7, "behind one more", () -> x.knowsIn(0, 1));
+    }
+
+    static void promise32_eachKnowsHisOwn(Check c) {
+        OtherTown x = Check.town(Edges.SMALL.replace("person m plain of c", "person m plain of d"));
+        c.granted(x, 1, "k now", () -> x.knowsIn(0, 0));
+        c.granted(x, 4, "m now", () -> x.knowsIn(2, 0));
+        c.granted(x, 1 + 2, "l behind one", () -> x.knowsIn(1, 1));
+        c.granted(x, 1 + 4, "m behind one", () -> x.knowsIn(2, 1));
     }
 
     static void promise32_40IsTheLast(Check c) {

@@ -86,10 +86,12 @@ public final class EdgesToldTest {
         }
     }
 
-    static void promise07_theLeastWalkAndKin(Check c) {
-        OtherTown x = Check.town(Edges.SMALL);
-        c.granted(x, 1, "walks", () -> x.person(0, 3));
-        c.granted(x, 0, "kin", () -> x.person(0, 4));
+    static void promise07_theLeastAndTheMostWalkAndKin(Check c) {
+        OtherTown x = Check.town(Edges.SMALL + ";person n plain of d walks 9 kin 9");
+        c.granted(x, 1, "the least walk", () -> x.person(0, 3));
+        c.granted(x, 0, "the least kin", () -> x.person(0, 4));
+        c.granted(x, 9, "the most", () -> x.person(3, 3));
+        c.granted(x, 9, "the most", () -> x.person(3, 4));
     }
 
     static void promise07_foesAreFoesOfEachOther(Check c) {

@@ -61,6 +61,15 @@ public final class EdgesTonightTest {
         c.granted(x, -2, "left again", () -> x.who(3));
     }
 
+    static void promise11_nobodyOfTenIsMinus2(Check c) {
+        OtherTown x = Check.lie(Edges.FULL, 9, 0);
+        c.granted(x, 9, "the last one", () -> x.who(0));
+        for (int bed = 1; bed < 12; bed++) {
+            int b = bed;
+            c.granted(x, -2, "bed " + b, () -> x.who(b));
+        }
+    }
+
     static void promise11_theChurchIsNoBed(Check c) {
         OtherTown x = Check.town(plain(0));
         for (int bed : new int[] {-2, -1, 8, Edges.MOST, Edges.LEAST}) {
@@ -241,6 +250,19 @@ public final class EdgesTonightTest {
     static void promise12_6KinOfTheOtherSideMindTheChildToo(Check c) {
         OtherTown x = Check.lie(four(0, "child", "plain", "plain", "plain"), 0, 2, 3, 4);
         c.granted(x, 0, "one who stayed at home", () -> x.wrong(0));
+    }
+
+    static void promise12_6ItIsHisOwnKinThatCounts(Check c) {
+        // m is a child of kin 2: k and l are of kin 1, o is of his
+        String text = T + H + person("k", "plain", "a", 1) + person("l", "plain", "a", 1) + person("m", "child", "a", 2)
+                + person("o", "plain", "a", 2);
+        OtherTown x = Check.lie(text, 0, 2, 1, 3, 2, 4);
+        c.granted(x, 6, "by others", () -> x.wrong(2));
+        x.lays(1, -2);
+        x.lays(3, 3);
+        c.granted(x, 0, "by his kin", () -> x.wrong(2));
+        x.lays(0, -2);
+        c.granted(x, 0, "by him alone", () -> x.wrong(2));
     }
 
     static void promise12_6KinOf0IsKinToo(Check c) {
