@@ -1825,7 +1825,9 @@ public final class OtherTown {
         }
 
         void copyFrom(Score other) {
-            set(other.church, other.turns, other.worth);
+            church = other.church;
+            turns = other.turns;
+            worth = other.worth;
         }
 
         void add(int moreChurch, int moreTurns, int moreWorth) {
